@@ -754,19 +754,16 @@ public final class PathQueries {
         }
 
         void closeRows() {
-            pending = ended();
+            nextRow();
+            pending = either[level];
             if (level > 0) {
                 level--;
             }
         }
 
         void endRows() {
-            whole = ended();
-        }
-
-        private long ended() {
             nextRow();
-            return either[level];
+            whole = either[level];
         }
 
         void nextRow() {
@@ -796,25 +793,27 @@ public final class PathQueries {
             }
         }
 
+        /** What was read last comes behind its row; till then a sign of repeating may meet it. */
         private void settlePending() {
-            if (pending != NOTHING) {
-                long before = row[level];
-                row[level] = before == NOTHING ? pending : inTurn(before, pending);
-                pending = NOTHING;
+            long before = row[level];
+            if (pending == NOTHING) {
+                return;
             }
-        }
-
-        private long inTurn(long one, long other) {
-            lead(one, other);
-            long first = one & STEP_BITS;
-            long last = other >> 16 & STEP_BITS;
-            if ((one & MAY_LACK) != 0) {
-                first |= other & STEP_BITS;
+            if (before == NOTHING) {
+                row[level] = pending;
+            } else {
+                lead(before, pending);
+                long first = before & STEP_BITS;
+                long last = pending >> 16 & STEP_BITS;
+                if ((before & MAY_LACK) != 0) {
+                    first |= pending & STEP_BITS;
+                }
+                if ((pending & MAY_LACK) != 0) {
+                    last |= before >> 16 & STEP_BITS;
+                }
+                row[level] = first | last << 16 | before & pending & MAY_LACK;
             }
-            if ((other & MAY_LACK) != 0) {
-                last |= one >> 16 & STEP_BITS;
-            }
-            return first | last << 16 | one & other & MAY_LACK;
+            pending = NOTHING;
         }
 
         private void lead(long one, long other) {
