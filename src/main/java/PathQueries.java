@@ -1723,7 +1723,8 @@ public final class PathQueries {
                 int of = text.code[at] / OP_KINDS;
                 if (op <= OP_ABSENT) {
                     if (top < MOST_WAITING) {
-                        stack[top] = op == OP_ABSENT && absent.fits(text, of) ? 0 : load(op, of);
+                        boolean present = op == OP_ABSENT && absent.fits(text, of);
+                        stack[top] = present ? 0 : load(op, of);
                         top++;
                     }
                 } else if (top > 0 && op <= OP_NOT) {
