@@ -283,6 +283,8 @@ public final class PathQueries {
 
     public int question(int q) {
         if (q < 0 || q >= QUESTIONS) {
+            // Such a call is the latest one all the same, and it had no fault.
+            reader.faultPlace = NO;
             return BAD;
         }
         int fault = reader.read(tape, length, spare, false);

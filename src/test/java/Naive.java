@@ -201,6 +201,7 @@ final class Naive {
 
     int question(int q) {
         if (q < 0 || q > 3) {
+            faultPlace = NO;
             return BAD;
         }
         String text = tape;

@@ -109,15 +109,40 @@ public final class ReadTest {
         Check.question(g, 0, "match (x) give x x");
         due("14: place", g.place(), 17);
         due("14: it stays", g.place(), 17);
-        Check.feed(g, "match (x) give x");
-        g.question(7);
-        due("14: no text was read", g.place(), 17);
-        g.question(0);
+        otherCallsLeaveIt(g);
+        due("14: other calls", g.place(), 17);
+        Check.question(g, 0, "match (x) give x");
         due("14: no fault", g.place(), -2);
         Check.rule(g, "rule A rule");
         due("14: of a rule", g.place(), 7);
+        due("14: no such question", g.question(4), -1);
+        due("14: which is no fault", g.place(), -2);
+        Check.question(g, 0, "match (x) give x x");
+        due("14: no such question below", g.question(-1), -1);
+        due("14: which is none either", g.place(), -2);
+        Check.question(g, 0, "match (x) give x x");
+        due("14: a fault once more", g.place(), 17);
+        Check.feed(g, "match (x) give");
+        g.question(7);
+        due("14: the tape's fault is not met yet", g.place(), -2);
+        due("14: but by the next call", g.question(0), -12);
+        due("14: whose place is told", g.place(), 14);
         Check.rule(g, "rule A match (x) give x, x");
         due("14: none of a rule", g.place(), -2);
+    }
+
+    private static void otherCallsLeaveIt(PathQueries g) {
+        g.feed(0, 0, 0, 0, 0);
+        g.cut(20);
+        g.cut(1);
+        g.node(0);
+        g.forget(0);
+        g.forget(9);
+        g.ask(0);
+        g.ask(9);
+        g.answer(9, 0, 0);
+        g.pairs(9);
+        g.least(9, 0, 0);
     }
 
     private static void tokens() {
