@@ -109,6 +109,7 @@ public final class AnswerTest {
             g.ask(0);
             due("16: asked anew", g.answer(0, 1, 0), 1);
         }
+        bareOfNoArcs();
         g.node(256);
         g.mark(9, 1);
         g.put(0, 4, 0);
@@ -131,6 +132,16 @@ public final class AnswerTest {
         Check.question(g, 0, "match (x) give x");
         due("16: but by a new one in its place", g.answer(0, 1, 0), NONE);
         due("16: the other one stands", g.answer(1, 1, 0), 1);
+    }
+
+    private static void bareOfNoArcs() {
+        PathQueries g = nodes(2);
+        g.mark(1, 4);
+        Check.question(g, 0, "match (x:m2) give x");
+        due("16: ask", g.ask(0), 1);
+        due("10: no arcs went", g.bare(1), 0);
+        due("16: its marks did", g.answer(0, 0, 0), NONE);
+        due("15: rows now", g.ask(0), 0);
     }
 
     private static void change(PathQueries g, int what) {
@@ -184,6 +195,11 @@ public final class AnswerTest {
         is("match (x)-[(a b)+]->(y) give x, y", "0 2; 0 3");
         is("match (x)-[(a b a)*]->(y) give x, y", "0 0; 0 3; 1 1; 2 2; 3 3");
         is("match (x)-[b ^b]->(y) give x, y", "1 1");
+        is("match (x)-[a? b]->(y) give x, y", "0 2; 0 3; 1 2; 1 3");
+        is("match (x)-[a* b]->(y) give x, y", "0 2; 0 3; 1 2; 1 3; 2 2; 2 3");
+        is("match (x)-[b a?]->(y) give x, y", "1 0; 1 2; 1 3");
+        is("match (x)-[a? b? c?]->(y) where x = 0 give y", "0; 1; 2; 3");
+        is("match (x)-[(a|c)? (b|c)]->(y) give x, y", "0 2; 0 3; 1 2; 1 3; 2 3");
         is("match (x)-[^b b]->(y) give x, y", "2 2; 2 3; 3 2; 3 3");
         is("match (x:m0)-[_]->(y)-[_]->(z) give x, y, z", "0 1 2; 0 1 3; 2 0 1; 2 3 3");
         is("match (x)-[_]->(x) give x", "3");
@@ -201,6 +217,8 @@ public final class AnswerTest {
         is("match (x)<-least w[_*]-(y) where x = 0 give y, w", "0 0; 1 2; 2 1");
         is("match (x)-least w[(a|b|c)*]->(y) give w, count", "0 4; 1 5; 2 4");
         is("match (x)-least w[a]->(y)-least v[_ _]->(z) give w + v, x, z", "3 0 0; 3 0 3; 3 2 2; 3 2 3; 3 3 3");
+        is("match (x)-least w[a]->(y)-least v[_ _]->(z) give 10 * w + v, w - v, x limit 1", "12 -1 0");
+        is("match (x)-[a]->(y)-least v[b a]->(z)-least w[_*]->(x) give v * 10 + w, x, z", "20 0 0");
         is("match (x)-least w[a (b a)*]->(y) where w > 1 give x, y, w", "0 0 3; 0 3 3");
     }
 
@@ -224,6 +242,11 @@ public final class AnswerTest {
         is("match (x) where x <= 2 give x", "0; 1; 2");
         is("match (x) where x > 2 give x", "3");
         is("match (x) where x >= 2 give x", "2; 3");
+        is("match (x) where not x = 2 give x", "0; 1; 3");
+        is("match (x) where not x != 2 give x", "2");
+        is("match (x) where not x < 2 give x", "2; 3");
+        is("match (x) where not x <= 2 give x", "3");
+        is("match (x) where not x > 2 give x", "0; 1; 2");
         is("match (x) where not x >= 2 give x", "0; 1");
         is("match (x) where not not x >= 2 give x", "2; 3");
         is("match (x) where x = 0 or x = 1 and x = 2 give x", "0");
@@ -249,6 +272,9 @@ public final class AnswerTest {
         is("match (x) where no (x)-[a]->(y) or no (y)-[a]->(x) give x", "1; 2");
         is("match (x) where no (x)-[a]->(y)-[a]->(z) give x", "0; 1");
         is("match (x) where no (x)-[_]->(x) give x", "0; 1; 2");
+        is("match (x) where not no (z:m0)-[a]->(x) and not no (z:m1)-[a]->(x) give x", "0");
+        is("match (x) where no (z:m0)-[c]->(x) and not no (z:m1)-[b]->(x) give x", "2");
+        is("match (x) where x = 0 and no (z:m7) and not no (z:m1) give x", "0");
         is("match (x) where no (x)-least w[b]->(y:m0:m1) give x", "0; 2; 3");
         is("match (x), (y) where no (z)-[_]->(x:m0)-[_*]->(y) give x, y", "1 0; 1 1; 1 2; 1 3; 3 0; 3 1; 3 2; 3 3");
     }

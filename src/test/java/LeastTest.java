@@ -95,5 +95,18 @@ public final class LeastTest {
         Check.question(g, 0, "match (x)-[(a a a a a a a a a a a a a a a a)+]->(y) give x");
         due("19: sixteen", g.least(0, 0, 0), 16);
         due("19: never", g.least(0, 0, 1), -2);
+        mostArcs(g);
+    }
+
+    /** Sixteen steps that go on by one node in all: no least way can have more arcs. */
+    private static void mostArcs(PathQueries g) {
+        for (int n = 0; n < 16; n++) {
+            g.arc(n, (n + 2) % 16, 1, 0);
+        }
+        Check.question(g, 0, "match (x)-[(a a a a a a a a a a a a a a a b)+]->(y) give x");
+        due("19: sixteen", g.least(0, 0, 1), 16);
+        due("19: sixteen times fifteen", g.least(0, 0, 15), 240);
+        due("19: sixteen times sixteen", g.least(0, 0, 0), 256);
+        due("19: from each node", g.least(0, 15, 15), 256);
     }
 }
