@@ -38,6 +38,7 @@ public final class ReuseTest {
         rulesInTurn();
         asksInTurn();
         asksBehindChanges();
+        all512Calls();
         CHECK.end("ReuseTest");
     }
 
@@ -182,6 +183,22 @@ public final class ReuseTest {
                     CHECK.due("least of " + text, g.least(2, k / 4, k % 4), fresh.least(0, k / 4, k % 4));
                 }
             }
+        }
+    }
+
+    /** An object is used for 512 calls; the last one answers as the first one did. */
+    private static void all512Calls() {
+        PathQueries g = new PathQueries();
+        CHECK.due("node", g.node(0), 0);
+        CHECK.due("node", g.node(0), 1);
+        int[] fed = Check.five("match(x:m1)give x    ", 0);
+        for (int i = 0; i < 85; i++) {
+            CHECK.due("feed", g.feed(fed[0], fed[1], fed[2], fed[3], fed[4]), 20);
+            CHECK.due("question", g.question(i % 4), 1);
+            CHECK.due("mark", g.mark(1, i % 2 * 2), i == 0 ? 0 : 2 - i % 2 * 2);
+            CHECK.due("ask", g.ask(i % 4), i % 2);
+            CHECK.due("answer", g.answer(i % 4, 0, 0), i % 2 == 0 ? 2000000000 : 1);
+            CHECK.due("cut", g.cut(1), -1);
         }
     }
 }

@@ -11,6 +11,7 @@ public final class RoomTest {
     public static void main(String[] args) {
         newObjects();
         dearAsks();
+        mostRows();
         dearTexts();
         dearRules();
         CHECK.end("RoomTest");
@@ -63,6 +64,28 @@ public final class RoomTest {
         }
         CHECK.due("rows", g.ask(0), 1024);
         within("dear asks", before, ROOM_BYTES / 2);
+    }
+
+    /** No answer can have more rows than those of seven nodes for five names, nor more items than eight. */
+    private static void mostRows() {
+        PathQueries g = new PathQueries();
+        long before = made();
+        for (int q = 0; q < 4; q++) {
+            Check.question(g, q, "match (x), (y), (z), (u), (v) give x, y, z, u, v, x - y, y - z, z - u");
+        }
+        for (int n = 1; n <= 7; n++) {
+            g.node(0);
+            for (int q = 0; q < 4; q++) {
+                CHECK.due("rows", g.ask(q), (long) Math.pow(n, 5));
+            }
+        }
+        for (int i = 0; i < 100; i++) {
+            g.put(0, 0, i);
+            for (int q = 0; q < 4; q++) {
+                CHECK.due("rows", g.ask(q), 16807);
+            }
+        }
+        within("most rows", before, ROOM_BYTES / 2);
     }
 
     private static void dearTexts() {

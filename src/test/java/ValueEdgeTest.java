@@ -40,6 +40,13 @@ public final class ValueEdgeTest {
         pairsNoneToAll();
         leastBounds();
         leastNoneToMost();
+        tenWaysMean();
+        sixteenStepsMean();
+        eightNamesMean();
+        eightItemsMean();
+        tenOpenOnesMean();
+        manyAbsencesMean();
+        twoHundredTokensMean();
         CHECK.end("ValueEdgeTest");
     }
 
@@ -552,5 +559,92 @@ public final class ValueEdgeTest {
         Check.question(g, 3, "match (x) where no (y)<-[a a]-(z) or no (x)-[a]->(y) give x");
         due("19: the first of all, in a no", g.least(3, 2, 0), 2);
         due("19: turned", g.least(3, 0, 2), -2);
+    }
+
+    /** All ten ways have to be there: the last one decides. */
+    private static void tenWaysMean() {
+        String text = "match (x)" + "-[a]->(y)-[a]->(x)".repeat(4) + "-[a]->(y)<-[b]-(z) give x, y, z";
+        PathQueries g = nodes(3);
+        g.arc(0, 1, 0, 0);
+        g.arc(1, 0, 0, 0);
+        CHECK.dueAnswer(g, text, "");
+        g.arc(2, 1, 1, 0);
+        CHECK.dueAnswer(g, text, "0 1 2");
+        g.arc(0, 0, 1, 0);
+        CHECK.dueAnswer(g, text, "0 1 2; 1 0 0");
+        CHECK.dueAnswer(g, "match (x)" + "-[_]->(x)".repeat(9) + " where no (x)-[b]->(x) give x", "");
+        CHECK.dueAnswer(g, "match (x)" + "-[_]->(x)".repeat(9) + " where no (x)-[a]->(x) give x", "0");
+    }
+
+    private static void sixteenStepsMean() {
+        PathQueries g = nodes(16);
+        for (int n = 0; n < 16; n++) {
+            g.arc(n, (n + 1) % 16, 0, 0);
+        }
+        String fifteen = "match (x)-[a a a a a a a a a a a a a a a ";
+        CHECK.dueAnswer(g, fifteen + "a]->(y) where x = 3 give y", "3");
+        CHECK.dueAnswer(g, fifteen + "^a]->(y) where x = 3 give y", "1");
+        CHECK.dueAnswer(g, fifteen + "b]->(y) where x = 3 give y", "");
+        CHECK.dueAnswer(g, fifteen + "a?]->(y) where x = 3 give y", "2; 3");
+        CHECK.dueAnswer(g, "match (x)-least w[" + "a?".repeat(16) + "]->(y) where x = 3 and w > 13 give y, w", "1 14; 2 15");
+    }
+
+    private static void eightNamesMean() {
+        String text = "match (x)-[a]->(y)-[a]->(z)-[a]->(u)-[a]->(v)-[a]->(w)-[a]->(x1)-[a]->(x9)";
+        PathQueries g = nodes(3);
+        for (int n = 0; n < 3; n++) {
+            g.arc(n, (n + 1) % 3, 0, 0);
+        }
+        CHECK.dueAnswer(g, text + " give x, y, z, u, v, w, x1, x9", "0 1 2 0 1 2 0 1; 1 2 0 1 2 0 1 2; 2 0 1 2 0 1 2 0");
+        CHECK.dueAnswer(g, text + " where x9 = 0 give x", "2");
+        CHECK.dueAnswer(g, "match (), (), (), (), (), (), ()-[a]->(x) give x, count", "0 729; 1 729; 2 729");
+    }
+
+    private static void eightItemsMean() {
+        CHECK.dueAnswer(nodes(2), "match (x) give 1, 2, 3, 4, 5, 6, 7, x", "1 2 3 4 5 6 7 0; 1 2 3 4 5 6 7 1");
+        CHECK.dueAnswer(nodes(2), "match (x) give 0, 0, 0, 0, 0, 0, 0, max x", "0 0 0 0 0 0 0 1");
+        CHECK.dueAnswer(nodes(2), "match (x) give count, sum x, min x, max x, count, sum 9, min -x, max -x", "2 1 0 1 2 18 -1 0");
+    }
+
+    private static void tenOpenOnesMean() {
+        value("-".repeat(10) + "7", 7);
+        value("-".repeat(9) + "7", -7);
+        value("(1 - ".repeat(10) + "7" + ")".repeat(10), 7);
+        value("(1 - ".repeat(9) + "7" + ")".repeat(9), -6);
+        PathQueries g = nodes(3);
+        CHECK.dueAnswer(g, "match (x) where " + "not ".repeat(10) + "x = 1 give x", "1");
+        CHECK.dueAnswer(g, "match (x) where " + "not ".repeat(9) + "x = 1 give x", "0; 2");
+        CHECK.dueAnswer(g, "match (x) where " + "[".repeat(10) + "x = 1" + "]".repeat(10) + " give x", "1");
+        CHECK.dueAnswer(g, "match (x) where " + "[x < 1 or ".repeat(10) + "x = 1" + "]".repeat(10) + " give x", "0; 1");
+        CHECK.dueAnswer(g, "match (x) where " + "[x < 2 and ".repeat(10) + "x > 0" + "]".repeat(10) + " give x", "1");
+        g.arc(0, 1, 0, 0);
+        g.arc(1, 2, 0, 0);
+        CHECK.dueAnswer(g, "match (x)-[" + "(".repeat(10) + "a" + ")+".repeat(10) + "]->(y) give x, y", "0 1; 0 2; 1 2");
+        CHECK.dueAnswer(g, "match (x)-[" + "(b|".repeat(10) + "a" + ")".repeat(10) + "]->(y) give x, y", "0 1; 1 2");
+        CHECK.dueAnswer(g, "match (x)-[" + "(a|".repeat(10) + "b" + ")?".repeat(10) + "]->(y) give x, y", "0 0; 0 1; 1 1; 1 2; 2 2");
+    }
+
+    /** As many absences as a text has room for, each with its own marks. */
+    private static void manyAbsencesMean() {
+        PathQueries g = nodes(2);
+        g.mark(1, 1);
+        String many = "match (x) where no (x:m1)" + " and no (x:m1)".repeat(25);
+        CHECK.dueAnswer(g, many + " give x", "0; 1");
+        CHECK.dueAnswer(g, many + " and no (x:m0) give x", "0");
+        CHECK.dueAnswer(g, "match (x) where no (x)" + " and no (x)".repeat(35) + " or no (x:m0) give x", "0");
+        CHECK.dueAnswer(g, "match (x:m0)" + ", (x:m0)".repeat(30) + " give x", "1");
+        CHECK.dueAnswer(g, "match (x:m0)" + ", (x:m0)".repeat(30) + ", (x:m1) give x", "");
+        CHECK.dueAnswer(g, "match (x" + ":m0".repeat(90) + ") give x", "1");
+        CHECK.dueAnswer(g, "match (x" + ":m0".repeat(90) + ":m1) give x", "");
+    }
+
+    private static void twoHundredTokensMean() {
+        PathQueries g = nodes(2);
+        String head = "match (x) where x < 2" + " and x < 2".repeat(47);
+        CHECK.dueAnswer(g, head + " give x, 1", "0 1; 1 1");
+        CHECK.dueAnswer(g, head.substring(0, head.length() - 1) + "1 give x, 1", "0 1");
+        CHECK.dueAnswer(g, "match (x) give x" + " + 1".repeat(97), "97; 98");
+        CHECK.dueAnswer(g, "match (x) give x" + " - 1 * 2".repeat(48) + " - 1", "-97; -96");
+        CHECK.dueAnswer(g, "match (x) give " + "-x * ".repeat(64) + "-x", "-1; 0");
     }
 }
