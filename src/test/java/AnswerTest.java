@@ -168,6 +168,14 @@ public final class AnswerTest {
         is("match (x:m0:m1) give x", "2");
         is("match (x:m7) give x", "");
         is("match (x:m0), (x:m1) give x", "2");
+        is("match (x:m0)-[a]->(x) give x", "");
+        is("match (x:m0)-[_ _ _]->(x) give x", "0; 2");
+        is("match (x)-[_]->(x)-[b]->(x) give x", "");
+        is("match (x)-[b]->(y:m0) give x, y", "1 2");
+        is("match (x)<-[b]-(y:m0) give x, y", "");
+        is("match (x:m0)<-[b]-(y:m1) give x, y", "2 1");
+        is("match (x)-[b]->(y), (x)-[_ a]->(y) give x, y", "1 3");
+        is("match (x)-[_]->(y), (y)<-[b]-(z), (y:m1) give x, y, z", "1 2 1");
         is("match (:m0) give 1, count", "1 2");
         is("match (), () give count", "16");
         is("match (x), () give x, count", "0 4; 1 4; 2 4; 3 4");
@@ -256,6 +264,10 @@ public final class AnswerTest {
         is("match (x) where not [x = 0 and x.c0 = 5] and x.c0 = 5 give x", "3");
         is("match (x) where x = 0 or x = 1 or x = 2 give x", "0; 1; 2");
         is("match (x) where x + 1 = 2 and 2 * x = x + 1 give x", "1");
+        is("match (x) where x = 1 + 1 give x", "2");
+        is("match (x) where 2 * x = x + 1 give x", "1");
+        is("match (x) where x < 3 - 1 and not x > -x + 1 give x", "0");
+        is("match (x) where x != 2 - 1 * 2 give x", "1; 2; 3");
         is("match (x), (y) where x != y and x.c0 = y.c0 give x, y", "0 3; 3 0");
         is("match (x) where 1 = 2 give x", "");
     }
@@ -272,6 +284,8 @@ public final class AnswerTest {
         is("match (x) where no (x)-[a]->(y) or no (y)-[a]->(x) give x", "1; 2");
         is("match (x) where no (x)-[a]->(y)-[a]->(z) give x", "0; 1");
         is("match (x) where no (x)-[_]->(x) give x", "0; 1; 2");
+        // Of the first node two rows fit, and only one of them is looked at.
+        is("match (x) where no (x)-[a]->(y)-[b]->(z) give x", "1; 2; 3");
         is("match (x) where not no (z:m0)-[a]->(x) and not no (z:m1)-[a]->(x) give x", "0");
         is("match (x) where no (z:m0)-[c]->(x) and not no (z:m1)-[b]->(x) give x", "2");
         is("match (x) where x = 0 and no (z:m7) and not no (z:m1) give x", "0");

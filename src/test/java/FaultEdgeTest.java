@@ -14,6 +14,7 @@ public final class FaultEdgeTest {
         tokensOfAQuestion();
         tokensOfARule();
         lastTokenHasLesserFault();
+        namelessNodeAtTheLastToken();
         namedNodes();
         namelessNodes();
         nodesOfNo();
@@ -251,6 +252,16 @@ public final class FaultEdgeTest {
         CHECK.dueFault(limit, 6, limit.length() - 1);
         String later = tokens("match ( x )", 199) + " limit 0";
         CHECK.dueFault(later, 3, later.length() - 1);
+    }
+
+    /** Its ( is met ahead of the 201st token, which tells that no VARIABLE comes. */
+    private static void namelessNodeAtTheLastToken() {
+        for (int tokens = 200; tokens <= 202; tokens++) {
+            String text = "match ( )" + " , ( )".repeat(7) + " where 1 =" + " -".repeat(tokens - 196) + " 1"
+                    + " and 1 = 1".repeat(41) + " and no ( )";
+            due("tokens of the text", text.split(" ").length, tokens);
+            CHECK.dueFault(text, 3, text.length() - 3);
+        }
     }
 
     private static String named(int count) {

@@ -211,6 +211,10 @@ public final class ReadTest {
         marked(2, "match (x)-[a]#-(y) give x");
         marked(2, "match (x)<-[a]#->(y) give x");
         marked(2, "match (x)-least #[a]->(y) give x");
+        marked(2, "match (x)-least w#->(y) give x");
+        marked(2, "match (x)<-least w#-(y) give x");
+        marked(2, "match (x)-[a]#[a]->(y) give x");
+        marked(2, "match (x)-[a] #least w->(y) give x");
         marked(2, "match (x)-least w w[a]->(y) give x".replace("w w", "w #w"));
         marked(2, "match (x) where #give x");
         marked(2, "match (x) where x #give x");

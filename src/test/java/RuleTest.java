@@ -12,6 +12,7 @@ public final class RuleTest {
         stays();
         large();
         largeRounds();
+        tenWays();
         changes();
         CHECK.end("RuleTest");
     }
@@ -189,6 +190,25 @@ public final class RuleTest {
         PathQueries g = chain(16, 15);
         Check.rule(g, "rule A match (x)-[a|A a]->(y) where no (z)-[h]->(z) give x, y");
         due("18: 16 rounds of 4096", g.pairs(0), 120);
+    }
+
+    /** All ten ways have to be there, those of rules' arcs that come late, too. */
+    private static void tenWays() {
+        PathQueries g = chain(3, 2);
+        g.arc(2, 0, 0, 0);
+        String nine = "(x)" + "-[a]->()<-[a]-(x)".repeat(4) + "-[a]->(y)";
+        Check.rule(g, "rule A match " + nine + "-[B]->(z) give x, z");
+        due("18: none", g.pairs(0), 0);
+        Check.rule(g, "rule B match (x)-[a|C]->(y) where x != 1 give x, y");
+        due("18: two", g.pairs(0), 2);
+        due("17: one", g.leads(1, 0, 8), 1);
+        due("17: the other", g.leads(2, 1, 8), 1);
+        Check.rule(g, "rule C match (x)-[A]->(y) give x, y");
+        due("18: one more by the third rule", g.pairs(0), 3);
+        due("17: it comes late", g.leads(1, 1, 8), 1);
+        due("18: those of the third rule", g.pairs(2), 3);
+        Check.rule(g, "rule B match (x)-[b]->(y) give x, y");
+        due("18: none again", g.pairs(0), 0);
     }
 
     private static void changes() {
