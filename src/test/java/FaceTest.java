@@ -1,4 +1,6 @@
+import java.io.DataInputStream;
 import java.io.IOException;
+import java.io.InputStream;
 import java.lang.reflect.Constructor;
 import java.lang.reflect.Field;
 import java.lang.reflect.Method;
@@ -18,10 +20,19 @@ public final class FaceTest {
             "put 3", "arc 4", "drop 1", "told 2", "bare 1", "question 1", "rule 0", "forget 1", "place 0", "ask 1",
             "answer 3", "leads 3", "pairs 1", "least 3"));
 
+    private static final Set<String> CALLED = Set.of("java/lang/Object.<init>", "java/util/Arrays.fill",
+            "java/util/Arrays.copyOf", "java/lang/Math.min", "java/lang/Math.max", "java/lang/Integer.bitCount",
+            "java/lang/Integer.numberOfTrailingZeros", "java/lang/String.length", "java/lang/String.charAt",
+            "java/lang/String.indexOf");
+
     public static void main(String[] args) throws IOException {
         face();
         classes();
         source(stripped(Files.readString(Path.of("src/main/java/PathQueries.java"))));
+        compiled(PathQueries.class);
+        for (Class<?> inside : PathQueries.class.getDeclaredClasses()) {
+            compiled(inside);
+        }
         CHECK.end("FaceTest");
     }
 
@@ -108,6 +119,47 @@ public final class FaceTest {
             CHECK.due("library " + library.group(), allowed.contains(library.group()));
         }
         lengths(source);
+    }
+
+    /** Also what the compiler puts in by itself (for texts joined by +, say) is seen here. */
+    private static void compiled(Class<?> c) throws IOException {
+        String file = c.getName() + ".class";
+        try (InputStream bytes = FaceTest.class.getResourceAsStream(file)) {
+            DataInputStream in = new DataInputStream(bytes);
+            in.skipBytes(8);
+            int entries = in.readUnsignedShort();
+            int[] first = new int[entries];
+            int[] second = new int[entries];
+            int[] tag = new int[entries];
+            String[] text = new String[entries];
+            for (int i = 1; i < entries; i++) {
+                tag[i] = in.readUnsignedByte();
+                switch (tag[i]) {
+                    case 1 -> text[i] = in.readUTF();
+                    case 3, 4 -> in.readInt();
+                    case 5, 6 -> {
+                        in.readLong();
+                        i++;
+                    }
+                    case 9, 10, 11, 12 -> {
+                        first[i] = in.readUnsignedShort();
+                        second[i] = in.readUnsignedShort();
+                    }
+                    case 7, 8 -> first[i] = in.readUnsignedShort();
+                    default -> {
+                        CHECK.due("an entry of kind " + tag[i] + " in " + file, false);
+                        return;
+                    }
+                }
+            }
+            for (int i = 1; i < entries; i++) {
+                if (tag[i] == 10 || tag[i] == 11) {
+                    String of = text[first[first[i]]];
+                    String call = of + "." + text[first[second[i]]];
+                    CHECK.due("a call of " + call, of.startsWith("PathQueries") || CALLED.contains(call));
+                }
+            }
+        }
     }
 
     private static void lengths(String source) {
